@@ -34,15 +34,16 @@ public final class RoomTest {
         s.tells("(eval (car (e)))", "'".repeat(35) + "e1");
     }
 
+    /** More objects than could ever be held at once, so each run must forget those of the last. */
     private static void mostMade() {
         Session s = new Session();
         s.tells("(defun f (n x) (if (equal n 0) x (f (- n 1) (cons n x))))", "");
         s.tells("(defun g (x) (f 9 x))", "");
-        for (int i = 0; i < 10; i++) {
-            s.tells("(map g (1 2))", "((1 2 3 4 5 6 7 8 9 . 1) (1 2 3 4 5 6 7 8 9 . 2))");
-            s.tells("(eval (car (f 140 (f 49 nil))))", "1");
+        for (int i = 0; i < 90; i++) {
+            s.tells("(eval (car (f 140 (f 49 'a" + i + "))))", "1");
             Session.same("steps", s.machine.steps(), 1 + 5 * (140 + 49) + 3 + 3);
         }
+        s.tells("(map g (1 2))", "((1 2 3 4 5 6 7 8 9 . 1) (1 2 3 4 5 6 7 8 9 . 2))");
         s.tells("(show g)", "(defun g (x) (f 9 x))");
     }
 
