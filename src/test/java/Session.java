@@ -91,8 +91,14 @@ final class Session {
         checks++;
         if (!got.equals(due)) {
             wrong++;
-            System.out.println(what + ": " + got + ", due is " + due);
+            System.out.println(shortened(what) + ": " + shortened(got.toString()) + ", due is " + shortened(due.toString()));
         }
+    }
+
+    /** Long texts are told by their beginning and end, so that the rows can be read. */
+    private static String shortened(String text) {
+        int length = text.length();
+        return length <= 200 ? text : text.substring(0, 90) + " .. " + text.substring(length - 90);
     }
 
     static void finish() {
