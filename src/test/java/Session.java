@@ -3,6 +3,7 @@ final class Session {
     private static final int MOST_CALLS = 512;
     private static int checks = 0;
     private static int wrong = 0;
+    private static String sentence = "";
 
     final LispMachine machine = new LispMachine();
     private int calls = 0;
@@ -87,10 +88,18 @@ final class Session {
         same(text + " fault of work", machine.fault(2), 0);
     }
 
+    /** The sentence of the document that the checks to come belong to. */
+    static void about(String itsSentence) {
+        sentence = itsSentence;
+    }
+
     static void same(String what, Object got, Object due) {
         checks++;
         if (!got.equals(due)) {
             wrong++;
+            if (!sentence.isEmpty()) {
+                System.out.println("\"" + sentence + "\"");
+            }
             System.out.println(shortened(what) + ": " + shortened(got.toString()) + ", due is " + shortened(due.toString()));
         }
     }
